@@ -1,0 +1,19 @@
+import java.io.IOException;
+import java.nio.file.Files;
+import java.nio.file.Path;
+
+/** Runs every test of the project. Arguments: the program's source, and a file for the counts. */
+public final class AllTests {
+    private AllTests() {
+    }
+
+    public static void main(String[] args) throws IOException {
+        Report report = new Report();
+        FaceTest.run(report);
+        LanguageTest.run(report, Path.of(args[0]));
+        PromiseTests.run(report);
+        ModelTest.run(report);
+        Files.writeString(Path.of(args[1]), report.passed() + " " + report.failed() + "\n");
+        System.exit(report.failed() == 0 ? 0 : 1);
+    }
+}

@@ -1,0 +1,3 @@
+final class ModelTest {
+    static void run(Report report) {}
+}
