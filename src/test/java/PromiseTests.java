@@ -237,7 +237,7 @@ final class PromiseTests {
                 fill 0 0 = -2
                 """);
         Script.test(report, "promise 8: seats", """
-                seats 0 1 = -5
+                wind 1 1 = 0
                 mark
                 seats 0 9 = 1
                 field 0 0 = 9
@@ -245,9 +245,10 @@ final class PromiseTests {
                 count 11 = 14
                 seats 0 9 = -5
                 seats 0 2 = 9
+                undo = 2
                 undo = 1
-                undo = 0
                 same
+                seats 0 1 = -5
                 seats 5 3 = 1
                 seats 0 10 = -2
                 seats 0 0 = -2
@@ -267,8 +268,12 @@ final class PromiseTests {
 
     private static void windAndSettings(Report report) {
         Script.test(report, "promise 9: wind", """
-                wind 0 0 = -5
+                seats 0 2 = 1
                 mark
+                wind 1 3 = 0
+                undo = 1
+                same
+                wind 0 0 = -5
                 wind 1 3 = 0
                 count 3 = 1
                 count 4 = 3
@@ -276,6 +281,8 @@ final class PromiseTests {
                 wind 1 4 = 13
                 wind 3 4 = 14
                 wind 2 0 = 34
+                count 3 = 2
+                count 4 = 0
                 undo = 3
                 undo = 2
                 undo = 1
@@ -290,17 +297,21 @@ final class PromiseTests {
                 wind 0 -1 = -2
                 """);
         Script.test(report, "promise 10: set", """
+                wind 1 1 = 0
+                mark
+                set 0 50 = 0
+                undo = 1
+                same
                 set 0 0 = -5
                 set 1 2 = -5
-                mark
                 set 0 50 = 0
                 count 12 = 50
                 count 13 = 2
                 set 0 50 = -5
                 set 1 8 = 2
                 count 13 = 8
+                undo = 2
                 undo = 1
-                undo = 0
                 same
                 set 1 0 = 2
                 set 1 8 = 0
@@ -543,6 +554,24 @@ final class PromiseTests {
                 perform = 7
                 perform = 7
                 """);
+        Script.test(report, "promise 15: perform, the greatest and the least numbers", """
+                """ + twelveScarecrows() + """
+                crow 11 0 = 1
+                text w3*9;c11:3;.99;f11+64
+                perform = 4
+                count 0 = 99
+                count 3 = 3
+                count 4 = 9
+                count 5 = 576
+                straw 11 = 1
+                text w0*0;c0:0;.1;f0+1
+                perform = 4
+                count 0 = 100
+                count 3 = 0
+                count 4 = 0
+                count 5 = 575
+                straw 0 = 1
+                """);
         Script.test(report, "promise 15: perform, NONE does not stop it, and it is an act all the same", """
                 text w0*0
                 perform = 1
@@ -729,6 +758,16 @@ final class PromiseTests {
                 restore = 3
                 count 14 = 4
                 """);
+        Script.test(report, "promise 19: restore, what undo brings back behind it", """
+                keep = 0
+                seats 0 2 = 1
+                seats 0 3 = 2
+                mark
+                restore = 0
+                field 0 0 = 1
+                undo = 2
+                same
+                """);
     }
 
     private static void tellings(Report report) {
@@ -776,6 +815,11 @@ final class PromiseTests {
         Script.test(report, "promise 22: weight", """
                 weight 0 0 = 0
                 setUp 0 3 9 1 = 0
+                crow 0 0 = 1
+                crow 0 3 = 2
+                weight 0 0 = 0.125
+                weight 0 3 = 0.125
+                scare 0 = 2
                 weight 0 1 = 3
                 weight 0 0 = 0
                 weight 1 1 = 0
@@ -861,6 +905,18 @@ final class PromiseTests {
                 field 0 3 = 0
                 field 0 2 = 1
                 crow 4 2 = 1
+                reason 0 = 0
+                field 0 2 = 2
+                scare 4 = 1
+                face 4 0 = 1
+                face 1 0 = 1
+                reason 0 = 2
+                field 0 2 = 0
+                crow 4 0 = 1
+                reason 0 = 0
+                field 0 2 = 0
+                crow 4 2 = 2
+                crow 4 2 = 3
                 reason 0 = 0
                 field 0 2 = 2
                 """);
@@ -954,6 +1010,22 @@ final class PromiseTests {
                 seats 1 3 = 2
                 decision 0 = 1
                 decision 1 = 1
+                """);
+        Script.test(report, "promise 25: decision, one seat more than the others", """
+                setUp 0 1 1 0 = 0
+                setUp 1 1 1 0 = 1
+                setUp 2 1 1 1 = 2
+                setUp 3 1 1 1 = 3
+                setUp 4 1 1 1 = 4
+                setUp 5 1 1 0 = 5
+                decision 0 = -5
+                decision 1 = -5
+                seats 1 2 = 1
+                decision 0 = 0
+                decision 1 = 0
+                seats 3 2 = 1
+                decision 0 = -5
+                decision 1 = -5
                 """);
         Script.test(report, "promise 26: swings", """
                 swings = 0
