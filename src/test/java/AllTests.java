@@ -2,7 +2,10 @@ import java.io.IOException;
 import java.nio.file.Files;
 import java.nio.file.Path;
 
-/** Runs every test of the project. Arguments: the program's source, and a file for the counts. */
+/**
+ * Runs every test of the project. Arguments: the program's source, the
+ * document, the folder of the boundary tests, and a file for the counts.
+ */
 public final class AllTests {
     private AllTests() {
     }
@@ -12,8 +15,9 @@ public final class AllTests {
         FaceTest.run(report);
         LanguageTest.run(report, Path.of(args[0]));
         PromiseTests.run(report);
+        BoundaryTests.run(report, Path.of(args[1]), Path.of(args[2]));
         ModelTest.run(report);
-        Files.writeString(Path.of(args[1]), report.passed() + " " + report.failed() + "\n");
+        Files.writeString(Path.of(args[3]), report.passed() + " " + report.failed() + "\n");
         System.exit(report.failed() == 0 ? 0 : 1);
     }
 }

@@ -77,7 +77,7 @@ final class PromiseTests {
                 setUp 0 1 0 0 = -2
                 setUp 0 1 10 0 = -2
                 setUp -2147483648 2147483647 -2147483648 2147483647 = -1
-                """ + twelveScarecrows() + """
+                twelve
                 setUp 0 1 1 0 = -3
                 setUp 0 6 1 0 = -2
                 setUp 6 1 1 0 = -1
@@ -256,14 +256,6 @@ final class PromiseTests {
                 seats 6 1 = -1
                 seats -1 1 = -1
                 """);
-    }
-
-    private static String twelveScarecrows() {
-        StringBuilder rows = new StringBuilder();
-        for (int s = 0; s < 12; s++) {
-            rows.append("setUp ").append(s % 6).append(" 1 1 0 = ").append(s).append('\n');
-        }
-        return rows.toString();
     }
 
     private static void windAndSettings(Report report) {
@@ -486,7 +478,7 @@ final class PromiseTests {
                 pass 2147483647 = -2
                 text .99;.99;.99;.99;.99;.99;.99;.99;.99;.99;.99;.99;.99;.99;.99
                 count 15 = 59
-                """ + "perform = 15\n".repeat(67) + """
+                times 67: perform = 15
                 count 0 = 99495
                 perform = -4
                 stopped 0 = 5
@@ -530,7 +522,7 @@ final class PromiseTests {
                 undo = -5
                 type 118 = 1
                 """);
-        Script.test(report, "promise 15: perform, the faults of texts", faults());
+        faults(report);
         Script.test(report, "promise 15: perform, what a sitting does", """
                 setUp 0 1 1 1 = 0
                 seats 0 6 = 1
@@ -555,7 +547,7 @@ final class PromiseTests {
                 perform = 7
                 """);
         Script.test(report, "promise 15: perform, the greatest and the least numbers", """
-                """ + twelveScarecrows() + """
+                twelve
                 crow 11 0 = 1
                 text w3*9;c11:3;.99;f11+64
                 perform = 4
@@ -648,7 +640,7 @@ final class PromiseTests {
         return rows.toString();
     }
 
-    private static String faults() {
+    private static void faults(Report report) {
         String[] texts = {
             "w 1", "w4 1", "w-1 1", "w0 2", "w0; 2", "w00*1 2", "w0* 3", "w0*; 3", "w0*10 4", "w0*05 4", "w0:1 2",
             "c 1", "c: 1", "c0 2", "c1 2", "c12 2", "c12:0 2", "c00:1 2", "c05:1 2", "c20:0 2", "c10 3", "c100:0 3",
@@ -658,14 +650,13 @@ final class PromiseTests {
             "v1 1", "v; 2", "vv 1", "; 0", ";v 0", "v;;v 2", "V 0", "v: 1", "x 0", "0 0",
             ". 1", ".0 1", ".09 1", ".100 3", ".999 3", ".99. 3", ".1x 2", ".1: 2", ".1;. 4", "../ 1", ".: 1",
         };
-        StringBuilder rows = new StringBuilder("perform = -100\n");
+        StringBuilder faults = new StringBuilder();
         for (String text : texts) {
             int space = text.lastIndexOf(' ');
-            rows.append("text ").append(text, 0, space).append('\n');
-            rows.append("perform = ").append(-100 - Integer.parseInt(text.substring(space + 1))).append('\n');
+            faults.append(Script.faultsOf("text " + text.substring(0, space) + "\n"
+                    + "perform = " + (-100 - Integer.parseInt(text.substring(space + 1))) + "\n"));
         }
-        return rows + "clearText = 2\ntype 65535 = 1\nperform = -100\ncount 14 = 0\nstopped 0 = -5\n"
-                + "clearText = 1\ntype 32 = 1\nperform = -100\nclearText = 1\ntype 118 = 1\ntype 32 = 2\nperform = -101\n";
+        report.tell("promise 15: perform, the faults of texts", faults.toString());
     }
 
     private static void history(Report report) {
@@ -1160,7 +1151,7 @@ final class PromiseTests {
                 """);
         Script.test(report, "promise 29: ifTicks knows no last tick", """
                 text .99;.99;.99;.99;.99;.99;.99;.99;.99;.99;.99;.99;.99;.99;.99
-                """ + "perform = 15\n".repeat(67) + """
+                times 67: perform = 15
                 text .99;.99;.99;.99;.99
                 perform = 5
                 setUp 0 1 1 0 = 0

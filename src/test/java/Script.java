@@ -1,101 +1,75 @@
-import java.lang.reflect.InvocationTargetException;
-import java.lang.reflect.Method;
-import java.util.Set;
+import java.util.List;
 
 /**
- * Runs a text of calls on a new house, a row each: a method, its numbers, "="
- * and the answer that is due. "text S" empties the text and types S instead.
- * "same" compares all that is told with what "mark" saw. What the document
- * says of all calls is looked at in each row: an error or NONE, and whatever
- * is only told, changes nothing (but for the latest stop of perform()).
+ * Runs rows of calls (the form is told in Step), and looks at each answer and
+ * at what the call changed and did not change (Laws). "same" compares the
+ * state with that at "mark". A run that starts with "bare" looks at answers alone:
+ * it needs all calls of its house itself.
  */
 final class Script {
-    private static final Set<String> CHANGING = Set.of("setUp", "carry", "face", "crow", "scare", "fill",
-            "seats", "wind", "set", "vote", "pass", "perform", "undo", "restore", "type", "clearText");
-
-    private final StrawHouse house = new StrawHouse();
+    private final List<Step> steps;
     private final StringBuilder faults = new StringBuilder();
-    private String marked = "";
+    private Look marked;
+
+    private Script(List<Step> steps) {
+        this.steps = steps;
+    }
 
     static void test(Report report, String name, String rows) {
-        Script script = new Script();
-        int number = 0;
-        for (String row : rows.split("\n")) {
-            number++;
-            if (!row.isBlank()) {
-                script.run(number, row.strip());
-            }
-        }
-        report.tell(name, script.faults.toString());
+        report.tell(name, faultsOf(rows));
     }
 
-    private void run(int number, String row) {
-        if (row.startsWith("text ")) {
-            typeAll(row.substring(5));
-        } else if (row.equals("mark")) {
-            marked = state();
-        } else if (row.equals("same")) {
-            expect(number, "all that is told", state(), marked);
-        } else {
-            call(number, row);
-        }
-    }
-
-    private void typeAll(String text) {
-        house.clearText();
-        for (char character : text.toCharArray()) {
-            house.type(character);
-        }
-    }
-
-    private void call(int number, String row) {
-        String[] sides = row.split(" = ");
-        String[] words = sides[0].trim().split(" +");
-        String before = Told.of(house);
-        double got = answer(words);
-        expect(number, row, String.valueOf(got), String.valueOf(Double.parseDouble(sides[1].trim())));
-        if (got < 0 || !CHANGING.contains(words[0])) {
-            String after = Told.of(house);
-            boolean stops = words[0].equals("perform");
-            expect(number, row + " (what is told)", stops ? butStop(after) : after, stops ? butStop(before) : before);
-        }
-    }
-
-    /** What a state is: neither the text and the history, which count in counts 14 and 15, nor the stop. */
-    private String state() {
-        return butStop(Told.of(house)).replaceFirst(" \\S+ \\S+\n", "\n");
-    }
-
-    private static String butStop(String told) {
-        return told.substring(0, told.indexOf(" stop "));
-    }
-
-    private double answer(String[] words) {
-        for (Method method : StrawHouse.class.getDeclaredMethods()) {
-            if (method.getName().equals(words[0])) {
-                return invoke(method, words);
-            }
-        }
-        throw new IllegalArgumentException("no method " + words[0]);
-    }
-
-    private double invoke(Method method, String[] words) {
-        Object[] values = new Object[words.length - 1];
-        for (int i = 0; i < values.length; i++) {
-            int value = Integer.parseInt(words[i + 1]);
-            values[i] = method.getParameterTypes()[i] == char.class ? (Object) (char) value : (Object) value;
-        }
+    /** A line for each fault; a row that can't be read, or a call that throws, is one too. */
+    static String faultsOf(String rows) {
         try {
-            return ((Number) method.invoke(house, values)).doubleValue();
-        } catch (IllegalAccessException | InvocationTargetException e) {
-            throw new IllegalStateException(words[0], e);
+            boolean bare = rows.strip().startsWith("bare\n");
+            Script script = new Script(Step.of(bare ? rows.strip().substring(5) : rows));
+            script.runAnswers();
+            if (!bare && script.faults.length() == 0) {
+                script.runLooks();
+            }
+            return script.faults.toString();
+        } catch (RuntimeException e) {
+            return "    threw " + e + "\n";
         }
     }
 
-    private void expect(int number, String what, String got, String due) {
-        if (!got.equals(due)) {
-            faults.append("    row ").append(number).append(": ").append(what).append(" answered ")
-                    .append(got).append(", due is ").append(due).append('\n');
+    private void runAnswers() {
+        Caller caller = new Caller();
+        for (int i = 0; i < steps.size(); i++) {
+            double got = steps.get(i).run(caller);
+            if (got != steps.get(i).due()) {
+                faults.append("    row ").append(i + 1).append(": ").append(steps.get(i).row())
+                        .append(": answered ").append(got).append('\n');
+            }
+        }
+    }
+
+    private void runLooks() {
+        Look before = new Look(steps.subList(0, 0));
+        for (int i = 0; i < steps.size(); i++) {
+            Step step = steps.get(i);
+            Look after = new Look(steps.subList(0, i + 1));
+            if (step.name().equals("mark")) {
+                marked = after;
+            } else if (step.name().equals("same")) {
+                expectMarked(i, after);
+            } else if (!step.given()) {
+                expect(i, Laws.broken(step, step.due(), before, after));
+            }
+            before = after;
+        }
+    }
+
+    private void expectMarked(int i, Look look) {
+        String due = marked.told().state();
+        String got = look.told().state();
+        expect(i, got.equals(due) ? "" : "      the state is\n" + got + "\n      due is\n" + due + "\n");
+    }
+
+    private void expect(int i, String fault) {
+        if (!fault.isEmpty()) {
+            faults.append("    row ").append(i + 1).append(": ").append(steps.get(i).row()).append('\n').append(fault);
         }
     }
 }

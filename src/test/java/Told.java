@@ -1,41 +1,49 @@
-/** All that a house tells of itself, in one text, so that two moments can be compared. */
-final class Told {
-    private Told() {
-    }
+/**
+ * All that a house tells of itself at once. The state is apart from what the
+ * document does not count among it: the text, the history and the latest stop.
+ */
+record Told(String state, int history, int text, String stop, int missing) {
 
-    static String of(StrawHouse house) {
-        StringBuilder all = new StringBuilder();
-        for (int what = 0; what <= 15; what++) {
-            all.append(what == 0 ? "counts " : " ").append(house.count(what));
+    static Told by(Caller caller) {
+        int scarecrows = (int) caller.call("count", 1);
+        StringBuilder state = new StringBuilder("counts");
+        for (int what = 0; what <= 13; what++) {
+            state.append(' ').append(caller.call("count", what));
         }
-        for (int s = 0; s < 12; s++) {
-            addScarecrow(all, house, s);
+        for (int s = 0; s <= scarecrows; s++) {
+            addScarecrow(state, caller, s);
         }
         for (int f = 0; f < 6; f++) {
-            addField(all, house, f);
+            addField(state, caller, f);
         }
-        all.append("\nhouse ").append(house.decision(0)).append(' ').append(house.decision(1));
-        all.append(' ').append(house.swings()).append(' ').append(house.withoutCrows());
-        all.append(" stop ").append(house.stopped(0)).append(' ').append(house.stopped(1));
-        return all.append('\n').toString();
+        state.append("\nhouse ").append(caller.call("decision", 0)).append(' ').append(caller.call("decision", 1));
+        state.append(' ').append(caller.call("swings")).append(' ').append(caller.call("withoutCrows"));
+        return new Told(state.toString(), (int) caller.call("count", 14), (int) caller.call("count", 15),
+                caller.call("stopped", 0) + " " + caller.call("stopped", 1), missingStraw(caller, scarecrows));
     }
 
-    private static void addScarecrow(StringBuilder all, StrawHouse house, int s) {
-        all.append("\nscarecrow ").append(s);
+    /** 64ths that are neither in the store nor in a scarecrow nor plucked: 0, if the accounts add up. */
+    private static int missingStraw(Caller caller, int scarecrows) {
+        double there = caller.call("count", 5) + caller.call("count", 6) + caller.call("count", 7);
+        return 640 + 64 * scarecrows - (int) there;
+    }
+
+    private static void addScarecrow(StringBuilder state, Caller caller, int s) {
+        state.append("\nscarecrow ").append(s);
         for (int what = 0; what <= 10; what++) {
-            all.append(' ').append(house.scarecrow(s, what));
+            state.append(' ').append(caller.call("scarecrow", s, what));
         }
-        all.append(' ').append(house.straw(s)).append(' ').append(house.turnsIn(s));
+        state.append(' ').append(caller.call("straw", s)).append(' ').append(caller.call("turnsIn", s));
     }
 
-    private static void addField(StringBuilder all, StrawHouse house, int f) {
-        all.append("\nfield ").append(f);
+    private static void addField(StringBuilder state, Caller caller, int f) {
+        state.append("\nfield ").append(f);
         for (int what = 0; what <= 3; what++) {
-            all.append(' ').append(house.field(f, what));
+            state.append(' ').append(caller.call("field", f, what));
         }
-        all.append(' ').append(house.reason(f));
+        state.append(' ').append(caller.call("reason", f));
         for (int way = 0; way < 4; way++) {
-            all.append(' ').append(house.weight(f, way));
+            state.append(' ').append(caller.call("weight", f, way));
         }
     }
 }
