@@ -12,7 +12,8 @@ import java.util.stream.Stream;
  * A test for each boundary case that a sentence of the document names, read
  * from src/test/boundaries:
  *
- *   = Promise 2: setUp     the heading under which the sentence stands
+ *   = Promise 2: setUp     the heading under which the sentence stands, and
+ *                          behind " / " words in capitals, if it has some
  *   > FULL if there are 12 the sentence, or a part of it, word by word
  *   * there are 11         the case: a test of its own; its rows follow (see Step)
  *   ! In a tick:           a sentence that names no case
@@ -73,8 +74,9 @@ final class BoundaryTests {
     }
 
     private void quote(String text) {
-        quotes.add(heading + "\n" + text);
-        if (!document.has(heading, text)) {
+        String section = heading.split(" / ")[0];
+        quotes.add(section + "\n" + text);
+        if (!document.has(section, text)) {
             faults.append("    not under ").append(heading).append(": ").append(text).append('\n');
         }
     }

@@ -45,10 +45,20 @@ final class FaceTest {
     }
 
     static void run(Report report) {
-        report.tell("face: the constants", constants());
+        constant(report, "UNKNOWN = -1", StrawHouse.UNKNOWN == -1);
+        constant(report, "BAD_VALUE = -2", StrawHouse.BAD_VALUE == -2);
+        constant(report, "FULL = -3", StrawHouse.FULL == -3);
+        constant(report, "NOT_POSSIBLE = -4", StrawHouse.NOT_POSSIBLE == -4);
+        constant(report, "NONE = -5", StrawHouse.NONE == -5);
+        report.tell("face: no other constant can be seen", constants());
         report.tell("face: the methods", methods());
         report.tell("face: the class and its constructor", classItself());
+        report.tell("Promise 1: A new object: \"Creates a house\": each is a house of its own", ownHouses());
         report.tell("face: the classes inside, the names of private methods", inside());
+    }
+
+    private static void constant(Report report, String sentence, boolean holds) {
+        report.tell("Terms / ERRORS: \"`" + sentence + "`\": the constant", holds ? "" : "    another value\n");
     }
 
     private static String constants() {
@@ -61,9 +71,7 @@ final class FaceTest {
         String start = "public static final int ";
         Set<String> due = new TreeSet<>(Set.of(start + "UNKNOWN", start + "BAD_VALUE", start + "FULL",
                 start + "NOT_POSSIBLE", start + "NONE"));
-        boolean values = StrawHouse.UNKNOWN == -1 && StrawHouse.BAD_VALUE == -2 && StrawHouse.FULL == -3
-                && StrawHouse.NOT_POSSIBLE == -4 && StrawHouse.NONE == -5;
-        return got.equals(due) && values ? "" : "    constants: " + got + "\n";
+        return got.equals(due) ? "" : "    constants: " + got + "\n";
     }
 
     private static String methods() {
@@ -89,6 +97,22 @@ final class FaceTest {
         return one && fine ? "" : "    the class is not as told\n";
     }
 
+    private static String ownHouses() {
+        Caller one = new Caller();
+        Caller other = new Caller();
+        String fresh = Told.by(new Caller()).toString();
+        one.call("setUp", 5, 5, 9, 3);
+        one.call("crow", 0, 1);
+        one.call("seats", 5, 9);
+        one.call("vote");
+        one.call("keep");
+        one.typeAnew(".9;c9:0");
+        one.call("perform");
+        boolean same = Told.by(other).toString().equals(fresh) && other.call("restore") == StrawHouse.NONE
+                && other.call("undo") == StrawHouse.NONE && other.call("perform") == -100;
+        return same ? "" : "    what one house does, another one tells\n";
+    }
+
     private static String inside() {
         Set<String> names = Arrays.stream(METHODS.strip().split("\n"))
                 .map(row -> row.substring(row.indexOf(' ') + 1, row.indexOf('('))).collect(Collectors.toSet());
@@ -99,14 +123,8 @@ final class FaceTest {
             }
         }
         for (Class<?> inner : StrawHouse.class.getDeclaredClasses()) {
-            if (!Modifier.isStatic(inner.getModifiers())
-                    || Modifier.isPublic(inner.getModifiers()) || Modifier.isProtected(inner.getModifiers())) {
+            if (Modifier.isPublic(inner.getModifiers()) || Modifier.isProtected(inner.getModifiers())) {
                 faults.append("    class ").append(inner.getName()).append('\n');
-            }
-            for (Method method : inner.getDeclaredMethods()) {
-                if (names.contains(method.getName())) {
-                    faults.append("    ").append(method).append('\n');
-                }
             }
         }
         return faults.toString();

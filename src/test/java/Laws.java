@@ -21,6 +21,7 @@ final class Laws {
     static String broken(Step step, double answer, Look before, Look after) {
         Laws laws = new Laws(before, after);
         laws.due("straw that is missing", after.told().missing(), 0);
+        laws.due("both ways decide alike", after.told().decidesAlike(), true);
         if (answer < 0) {
             laws.changesNothing(step.name().equals("perform") && answer == NOT_POSSIBLE);
         } else if (ACTS.contains(step.name())) {

@@ -4,8 +4,12 @@ import java.util.Random;
 
 /** Runs of calls by fixed seeds, each answer beside that of the model. */
 final class ModelTest {
-    private static final int CALLS = 512;
-    private static final int RUNS = 300;
+    private static final int CALLS = Caller.MOST_CALLS;
+    private static final int RUNS = 600;
+    /** How many calls the comparison of all that is told takes at most. */
+    private static final int COMPARING = 240;
+    /** How many calls a sitting takes at most: to empty the text, to type and perform it, and to ask for its stop. */
+    private static final int SITTING = 1 + 60 + 2;
     private static final String[] USUAL = {
         "setUp", "setUp", "carry", "face", "crow", "crow", "crow", "crow", "scare", "fill", "fill", "seats", "seats",
         "wind", "wind", "set", "vote", "vote", "pass", "pass", "pass", "undo", "keep", "restore", "perform",
@@ -20,11 +24,14 @@ final class ModelTest {
     private String fault = "";
     /** From 0 to 3: how seldom an argument is one that the document refuses. */
     private final int care;
+    /** Half of the runs look at everything in the end, the others go on instead. */
+    private final boolean comparing;
     private int calls;
 
     private ModelTest(int seed) {
         random = new Random(seed);
         care = seed % 4;
+        comparing = seed % 8 < 4;
     }
 
     static void run(Report report) {
@@ -40,19 +47,19 @@ final class ModelTest {
     }
 
     private void runAll() {
-        while (calls < CALLS && fault.isEmpty()) {
-            if (random.nextInt(25) == 0) {
+        int last = comparing ? CALLS - COMPARING : CALLS;
+        while (calls < last && fault.isEmpty()) {
+            if (random.nextInt(25) == 0 && calls + SITTING <= last) {
                 typeSitting();
                 call("perform");
                 call("stopped", random.nextInt(2));
             } else {
                 callOne(USUAL[random.nextInt(USUAL.length)]);
             }
-            if (random.nextInt(40) == 0) {
-                compareAll();
-            }
         }
-        compareAll();
+        if (comparing) {
+            compareAll();
+        }
     }
 
     /** Text by text, till ticks run out: the last tick is reached, and sittings stop there. */
@@ -199,6 +206,9 @@ final class ModelTest {
             return;
         }
         calls++;
+        if (calls > CALLS) {
+            throw new IllegalStateException("this run calls one house more than " + CALLS + " times");
+        }
         Object due = answer(model, name, values);
         Object got = answer(house, name, values);
         run.append("    ").append(name).append(java.util.Arrays.toString(values)).append(" = ").append(got).append('\n');

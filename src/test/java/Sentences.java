@@ -18,11 +18,11 @@ final class Sentences {
         return sections.getOrDefault(heading, "").contains(text);
     }
 
-    /** @param quotes each a heading, a line's end, and what is quoted from under it */
+    /** The public face is code, and has FaceTest. @param quotes each a heading, a line's end, and what is quoted from under it */
     String unquoted(List<String> quotes) {
         StringBuilder faults = new StringBuilder();
         for (String heading : sections.keySet()) {
-            if (!heading.startsWith("#") && !heading.equals("The public face") && !heading.equals("Not promised")) {
+            if (!heading.startsWith("#") && !heading.equals("The public face")) {
                 addUnquoted(faults, heading, quotes);
             }
         }
