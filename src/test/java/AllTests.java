@@ -4,7 +4,8 @@ import java.nio.file.Path;
 
 /**
  * Runs every test of the project. Arguments: the program's source, the
- * document, the folder of the boundary tests, and a file for the counts.
+ * document, the folder of the boundary tests, the readme, and a file for the
+ * counts.
  */
 public final class AllTests {
     private AllTests() {
@@ -17,7 +18,8 @@ public final class AllTests {
         PromiseTests.run(report);
         BoundaryTests.run(report, Path.of(args[1]), Path.of(args[2]));
         ModelTest.run(report);
-        Files.writeString(Path.of(args[3]), report.passed() + " " + report.failed() + "\n");
+        ReadmeTest.run(report, Path.of(args[3]), Path.of(args[1]));
+        Files.writeString(Path.of(args[4]), report.passed() + " " + report.failed() + "\n");
         System.exit(report.failed() == 0 ? 0 : 1);
     }
 }
